@@ -1030,7 +1030,7 @@ public final class AlreadyJudged {
         }
 
         /** Operands joined by the operators of a level (0 binds loosest) and of tighter ones. */
-        void readLevel(int level, int open) {
+        private void readLevel(int level, int open) {
             if (level > TIGHTEST) {
                 readOperand(open);
                 return;
@@ -1066,7 +1066,7 @@ public final class AlreadyJudged {
             }
         }
 
-        void readOperand(int open) {
+        private void readOperand(int open) {
             int one = tape.byteAt(at);
             if (fault >= 0) {
                 return;
@@ -1570,7 +1570,7 @@ public final class AlreadyJudged {
         }
 
         /** Tries the rows in the order of their digits; a later row must be better to count. */
-        void seek(int on, int used, int askedDays, int digits) {
+        private void seek(int on, int used, int askedDays, int digits) {
             if (Integer.bitCount(askedDays) + size - on <= best) {
                 return;
             }
@@ -1712,7 +1712,7 @@ public final class AlreadyJudged {
             ran++;
         }
 
-        int closes(int from, int x) {
+        private int closes(int from, int x) {
             switch (from) {
                 case AGREED:
                     note(40);
@@ -1733,7 +1733,7 @@ public final class AlreadyJudged {
             }
         }
 
-        int settles(int from, int x) {
+        private int settles(int from, int x) {
             switch (from) {
                 case MERITS:
                     note(20);
@@ -1754,7 +1754,7 @@ public final class AlreadyJudged {
             }
         }
 
-        int binds(int from, int x) {
+        private int binds(int from, int x) {
             if (from == FORM) {
                 note(30);
                 return binds(above(FORM), x) * 3;
@@ -1766,7 +1766,7 @@ public final class AlreadyJudged {
             return x ^ number;
         }
 
-        int tells(int from, int x) {
+        private int tells(int from, int x) {
             if (from == DEFAULT) {
                 note(51);
                 return tells(above(DEFAULT), x) ^ 5;
