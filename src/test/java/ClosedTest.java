@@ -85,6 +85,17 @@ public final class ClosedTest {
         CHECK.due("16: the buyer against the heir", x.met(0, 705, 700), 0);
         CHECK.due("16: the buyer, too early", x.met(0, 506, 690), -2);
         CHECK.due("16: both on one side", x.met(0, 500, 700), -2);
+        for (int i = 7; i < 11; i++) {
+            x.shoe(i + 1, i, 1, 0);
+        }
+        Check.law(x, 25, "1");
+        CHECK.due("16: in six steps", x.met(0, 11, 705), 0);
+        CHECK.due("27: which hangs on the first of them", x.hangs(0, 11, 705), 1);
+        x.shoe(7, 1, 1, 0);
+        x.shoe(8, 1, 1, 0);
+        x.shoe(9, 1, 1, 0);
+        x.shoe(10, 1, 1, 0);
+        CHECK.due("27: on the last one alone", x.hangs(0, 11, 705), 6);
         Check.law(x, 23, "0");
         CHECK.due("16: by BINDS of the land where it is asked", x.met(0, 501, 703), -2);
         CHECK.due("16: the people themselves need no shoe", x.met(0, 1, 703), 0);
@@ -127,6 +138,16 @@ public final class ClosedTest {
         y.shoe(1, 0, 1, 0);
         Check.law(y, 0, "r");
         CHECK.due("3: who stands on both sides is met by either", y.met(0, -1, 0), 0);
+        AlreadyJudged z = new AlreadyJudged();
+        z.claim(203, 5, 1);
+        z.claim(203, 6, 2);
+        Check.suit(z, "2>3:0=mw@0/0");
+        Check.law(z, 0, "!a&!s&!c");
+        CHECK.due("3: a claim that is like it in nothing", z.met(1, -1, 0), 0);
+        CHECK.due("3: there is none of them", z.met(0, -1, 0), -2);
+        CHECK.due("16: pq 0 is not as told", z.met(1, 0, 0), -2);
+        Check.law(z, 0, "r=1");
+        CHECK.due("3: r is 1", z.met(1, 302, 0), 0);
     }
 
     private static void partsOfASuit() {
@@ -206,6 +227,8 @@ public final class ClosedTest {
         CHECK.due("18: third", x.left(500, 2), 4);
         CHECK.due("18: none such", x.left(500, 3), -1);
         CHECK.due("18: the day ahead", x.left(490, -1), 5);
+        Check.law(x, 7, "h=7");
+        CHECK.due("18: by the law of that land", x.left(507, -1), 1);
         CHECK.due("18: i below", x.left(500, -2), -1);
         CHECK.due("18: i far above", x.left(500, Integer.MAX_VALUE), -1);
         CHECK.due("18: dl below", x.left(-1, -1), -1);
@@ -254,6 +277,8 @@ public final class ClosedTest {
         CHECK.due("20: with another one", x.opens(0, 600), 0x80008000L);
         CHECK.due("20: the other one", x.opens(1, 600), 0x20002L);
         CHECK.due("20: not there yet", x.opens(1, 590), 0);
+        Check.law(x, 6, "h=6&c");
+        CHECK.due("20: by the law of that land", x.opens(0, 606), 0x8000L);
         CHECK.due("20: no such suit", x.opens(2, 600), -1);
         CHECK.due("20: suit below", x.opens(-1, 600), -1);
         CHECK.due("20: dl below", x.opens(0, -1), -1);
@@ -282,6 +307,10 @@ public final class ClosedTest {
         CHECK.due("21: point 3, the pair again", x.clash(3), 1);
         CHECK.due("21: point 3, first and fourth", x.clash(4), 3);
         CHECK.due("21: none such behind", x.clash(5), -1);
+        Check.suit(x, "0>1:0;0+n;31-n=mw@80/0");
+        Check.suit(x, "0>1:0;0-n;31+n=mw@80/0");
+        CHECK.due("21: point 0 is first", x.clash(0), 405);
+        CHECK.due("21: point 31 is last", x.clash(6), 405);
         CHECK.due("21: i below", x.clash(-2), -1);
         CHECK.due("21: i far above", x.clash(Integer.MAX_VALUE), -1);
         CHECK.due("21: i far below", x.clash(Integer.MIN_VALUE), -1);

@@ -87,6 +87,12 @@ public final class OrdersTest {
         Check.law(x, 0, "a&k=1&l=0&h=0&c");
         CHECK.due("23: the very claim of the suit", x.order(5000, 0), 2);
         CHECK.due("23: no other is the very claim", x.order(0, 0), 3);
+        ofFiveAlike("d=1", 3);
+        ofFiveAlike("d=2", 3);
+        ofFiveAlike("d=3", 3);
+        ofFiveAlike("d=4", 4);
+        ofFiveAlike("d>1", 2);
+        ofFiveAlike("d>4", 5);
         AlreadyJudged y = Check.withClaims(1);
         y.claim(501, 0, 0);
         y.claim(100, 0, 0);
@@ -102,6 +108,17 @@ public final class OrdersTest {
         Check.law(y, 0, "r");
         CHECK.due("23: sides the other way round", y.order(1000, 0), 1);
         CHECK.due("23: on the last day", y.order(99990, 0), 1);
+    }
+
+    private static void ofFiveAlike(String law, int most) {
+        AlreadyJudged x = new AlreadyJudged();
+        Check.law(x, 3, law);
+        for (int i = 0; i < 5; i++) {
+            x.claim(1, 0, 0);
+            x.wish(i, 1);
+        }
+        CHECK.due("23: five alike by " + law, x.order(103, 0), most);
+        CHECK.due("23: their first row by " + law, x.order(103, 1), 12345);
     }
 
     private static void joined() {
@@ -171,6 +188,12 @@ public final class OrdersTest {
         Check.law(x, 36, "l=7");
         CHECK.due("26: the fewest ahead of the first", x.ring(1), 78);
         noLandHeeds(x);
+        Check.law(x, 31, "l=2|l=3|l=4");
+        Check.law(x, 32, "l=5");
+        Check.law(x, 33, "l=6");
+        Check.law(x, 36, "l=1|l=5");
+        CHECK.due("26: past a land that leads nowhere", x.ring(1), 247);
+        noLandHeeds(x);
         Check.law(x, 30, "k-1|w-1|d|l=1&h-1");
         Check.law(x, 31, "l=0");
         CHECK.due("26: the land that heeds", x.ring(1), 12);
@@ -195,6 +218,11 @@ public final class OrdersTest {
         CHECK.due("27: another suit closes it", x.hangs(0, 506, 700), -2);
         CHECK.due("27: the same shoe stands", x.count(0), 4);
         CHECK.due("27: and binds", x.met(0, 501, 700), 0);
+        CHECK.due("27: open for another one", x.hangs(0, 901, 700), -1);
+        Check.suit(x, "10>1:0=mw@65/0");
+        CHECK.due("27: on shoe 0", x.hangs(0, 901, 707), 0);
+        Check.law(x, 27, "n>1");
+        CHECK.due("27: by BINDS of that land", x.hangs(0, 901, 707), -1);
         CHECK.due("27: no such claim", x.hangs(1, -1, 700), -1);
         CHECK.due("27: pq", x.hangs(0, -2, 700), -1);
         CHECK.due("27: p above", x.hangs(0, 2000, 700), -1);
@@ -213,6 +241,7 @@ public final class OrdersTest {
         Check.suit(x, "0>1:0;3-fn=mw@70/0");
         CHECK.due("28: the other way without it", x.need(3, 1, 900), 3);
         CHECK.due("28: not there yet", x.need(3, 1, 690), -2);
+        CHECK.due("28: suit 0", x.need(4, 1, 907), 0);
         CHECK.due("28: point 32", x.need(32, 1, 900), -1);
         CHECK.due("28: point below", x.need(-1, 1, 900), -1);
         CHECK.due("28: pq -1", x.need(3, -1, 900), -1);

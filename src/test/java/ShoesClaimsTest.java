@@ -78,6 +78,10 @@ public final class ShoesClaimsTest {
         CHECK.due("3: sort", x.ofShoe(2, 2), 5);
         CHECK.due("3: day", x.ofShoe(2, 3), 50);
         CHECK.due("3: no more than told", x.shoes(0, 1, 2), 2);
+        x.row(3, 1, 8);
+        putAll(x, 3, 0, 1, 1, 0, 2, 3, 1, 0);
+        CHECK.due("3: up to the very end", x.shoes(3, 0, 2), 2);
+        CHECK.due("3: the last four", x.shoes(3, 4, 1), 1);
         CHECK.due("3: one that is not so", x.shoes(0, 0, 2), 1);
         CHECK.due("3: behind the row", x.shoes(0, 14, 1), 0);
         CHECK.due("3: far behind the row", x.shoes(0, Integer.MAX_VALUE, 15), 0);
@@ -173,6 +177,8 @@ public final class ShoesClaimsTest {
         CHECK.due("6: the row whose numbers are first, from p on", y.bound(3, 0, 0, 1), 5);
         Check.law(y, 20, "n=1&s=2|n=2");
         CHECK.due("6: the first row that binds", y.bound(3, 0, 0, 1), 2);
+        y.shoe(19, 18, 4, 0);
+        CHECK.due("6: far people", y.bound(1918, 0, 1, 1), 4);
         AlreadyJudged z = new AlreadyJudged();
         z.shoe(0, 1, 1, 0);
         z.shoe(1, 0, 2, 0);
