@@ -1,6 +1,7 @@
 import java.lang.reflect.InvocationTargetException;
 import java.lang.reflect.Method;
 import java.util.ArrayList;
+import java.util.Arrays;
 import java.util.HashMap;
 import java.util.List;
 import java.util.Map;
@@ -52,6 +53,13 @@ final class Edges {
         }
     }
 
+    /** A run of calls that begins with some that many runs begin with. */
+    void edge(String sentence, String[] ahead, String... told) {
+        String[] all = Arrays.copyOf(ahead, ahead.length + told.length);
+        System.arraycopy(told, 0, all, ahead.length, told.length);
+        edge(sentence, all);
+    }
+
     /** Ends the test: exit code 1 if an answer was not as due. */
     void end() {
         System.out.println(name + ": " + sentences + " sentences, " + answers + " answers, " + wrong + " not as due");
@@ -64,7 +72,7 @@ final class Edges {
         for (Call call : calls) {
             answers++;
             long got = answer(on, call);
-            if (call.due == null ? got < 0 : got != call.due) {
+            if (call.due == null ? got < 0 && !call.name.equals("act") : got != call.due) {
                 String due = call.due == null ? "no refusal" : call.due.toString();
                 tell(sentence, told(call) + " of " + on.getClass().getName() + " answered " + got + ", due is " + due);
             }
@@ -85,6 +93,9 @@ final class Edges {
     }
 
     private static boolean isRefusal(String call, long due) {
+        if (call.equals("act")) {
+            return false; // An act's answer may be any int.
+        }
         return due == -1 || due == -2 || due == -3 || due == -5 || due <= -11 && due >= -14
             || call.equals("element") && due == Long.MIN_VALUE;
     }

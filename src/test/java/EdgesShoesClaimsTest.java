@@ -136,18 +136,11 @@ public final class EdgesShoesClaimsTest {
         return told;
     }
 
-    private static void edgeOfRow(String sentence, String[] row, String... told) {
-        String[] all = new String[row.length + told.length];
-        System.arraycopy(row, 0, all, 0, row.length);
-        System.arraycopy(told, 0, all, row.length, told.length);
-        EDGES.edge(sentence, all);
-    }
-
     private static void shoesFromARow() {
-        edgeOfRow("Promise 3: from place i on", rowOf(2, 9, 0, 1, 2, 33, 4, 5, 6),
+        EDGES.edge("Promise 3: from place i on", rowOf(2, 9, 0, 1, 2, 33, 4, 5, 6),
             "shoes 2 1 1 = 1", "ofShoe 0 0 = 0", "ofShoe 0 1 = 1", "ofShoe 0 2 = 2", "ofShoe 0 3 = 33", "shoes 2 0 1 = 1",
             "ofShoe 1 0 = 9", "shoes 2 4 1 = 0", "count 0 = 2");
-        edgeOfRow("Promise 3: n (1 .. 15) of them", rowOf(0, 0, 1, 1, 0, 2, 3, 1, 0),
+        EDGES.edge("Promise 3: n (1 .. 15) of them", rowOf(0, 0, 1, 1, 0, 2, 3, 1, 0),
             "shoes 0 0 0 = BAD", "shoes 0 0 16 = BAD", "shoes 0 0 -1 = BAD", "shoes 0 0 MIN = BAD", "shoes 0 0 MAX = BAD",
             "count 0 = 0", "shoes 0 0 1 = 1", "shoes 0 0 15 = 2", "count 0 = 3");
         int[] sixty = new int[60];
@@ -157,10 +150,10 @@ public final class EdgesShoesClaimsTest {
             sixty[4 * i + 2] = 5;
             sixty[4 * i + 3] = 100 + i;
         }
-        edgeOfRow("Promise 3: n (1 .. 15) of them: all fifteen of sixty", rowOf(5, sixty),
+        EDGES.edge("Promise 3: n (1 .. 15) of them: all fifteen of sixty", rowOf(5, sixty),
             "shoes 5 0 15 = 15", "ofShoe 14 0 = 14", "ofShoe 14 3 = 114", "shoes 5 0 14 = 14", "count 0 = 29",
             "shoes 5 56 15 = 1", "shoes 5 57 15 = 0", "shoes 5 60 1 = 0", "shoes 5 61 1 = 0");
-        edgeOfRow("Promise 3: 0 with i below 0", rowOf(0, 0, 1, 1, 0, 2, 3, 1, 0),
+        EDGES.edge("Promise 3: 0 with i below 0", rowOf(0, 0, 1, 1, 0, 2, 3, 1, 0),
             "shoes 0 -1 1 = 0", "shoes 0 -4 2 = 0", "shoes 0 MIN 15 = 0", "count 0 = 0", "shoes 0 0 1 = 1");
         EDGES.edge("Promise 3: 0 with i below 0, where the row is missing", "shoes 0 -1 1 = 0", "shoes 0 -4 15 = 0");
         EDGES.edge("Promise 3: BAD, ahead of -12",
@@ -177,23 +170,23 @@ public final class EdgesShoesClaimsTest {
     private static void shoesThatEnd() {
         EDGES.edge("5. SHOES FROM A ROW: it ends where the row ends: a row of none",
             "row 0 1 0", "shoes 0 0 1 = 0", "shoes 0 0 15 = 0");
-        edgeOfRow("5. SHOES FROM A ROW: it ends where the row ends", rowOf(0, 0, 1, 1, 0, 2, 3, 1, 0),
+        EDGES.edge("5. SHOES FROM A ROW: it ends where the row ends", rowOf(0, 0, 1, 1, 0, 2, 3, 1, 0),
             "shoes 0 0 3 = 2", "shoes 0 4 2 = 1", "shoes 0 8 1 = 0", "shoes 0 9 1 = 0", "shoes 0 MAX 15 = 0", "count 0 = 3");
-        edgeOfRow("5. SHOES FROM A ROW: (within a four, too)", rowOf(0, 0, 1, 1, 0, 2, 3, 1),
+        EDGES.edge("5. SHOES FROM A ROW: (within a four, too)", rowOf(0, 0, 1, 1, 0, 2, 3, 1),
             "shoes 0 0 2 = 1", "count 0 = 1", "shoes 0 4 1 = 0", "count 0 = 1", "shoes 0 3 1 = 1");
-        edgeOfRow("5. SHOES FROM A ROW: (within a four, too): behind one and two of it", rowOf(0, 0, 1, 1, 0, 2, 3),
+        EDGES.edge("5. SHOES FROM A ROW: (within a four, too): behind one and two of it", rowOf(0, 0, 1, 1, 0, 2, 3),
             "shoes 0 0 2 = 1", "shoes 0 5 1 = 0", "shoes 0 6 1 = 0", "count 0 = 1");
-        edgeOfRow("5. SHOES FROM A ROW: it ends where one is not so: one's own", rowOf(0, 0, 1, 1, 0, 2, 2, 1, 0, 3, 4, 1, 0),
+        EDGES.edge("5. SHOES FROM A ROW: it ends where one is not so: one's own", rowOf(0, 0, 1, 1, 0, 2, 2, 1, 0, 3, 4, 1, 0),
             "shoes 0 0 3 = 1", "count 0 = 1", "ofShoe 0 0 = 0", "shoes 0 4 2 = 0", "shoes 0 8 1 = 1");
-        edgeOfRow("5. SHOES FROM A ROW: it ends where one is not so: its PERSON", rowOf(0, 0, 1, 1, 0, 20, 2, 1, 0, -1, 4, 1, 0),
+        EDGES.edge("5. SHOES FROM A ROW: it ends where one is not so: its PERSON", rowOf(0, 0, 1, 1, 0, 20, 2, 1, 0, -1, 4, 1, 0),
             "shoes 0 0 3 = 1", "shoes 0 4 1 = 0", "shoes 0 8 1 = 0");
-        edgeOfRow("5. SHOES FROM A ROW: it ends where one is not so: the other", rowOf(0, 0, 1, 1, 0, 2, 20, 1, 0, 3, -1, 1, 0),
+        EDGES.edge("5. SHOES FROM A ROW: it ends where one is not so: the other", rowOf(0, 0, 1, 1, 0, 2, 20, 1, 0, 3, -1, 1, 0),
             "shoes 0 0 3 = 1", "shoes 0 4 1 = 0", "shoes 0 8 1 = 0");
-        edgeOfRow("5. SHOES FROM A ROW: it ends where one is not so: its SORT", rowOf(0, 0, 1, 1, 0, 2, 3, 0, 0, 3, 4, 6, 0),
+        EDGES.edge("5. SHOES FROM A ROW: it ends where one is not so: its SORT", rowOf(0, 0, 1, 1, 0, 2, 3, 0, 0, 3, 4, 6, 0),
             "shoes 0 0 3 = 1", "shoes 0 4 1 = 0", "shoes 0 8 1 = 0");
-        edgeOfRow("5. SHOES FROM A ROW: it ends where one is not so: its DAY", rowOf(0, 0, 1, 1, 0, 2, 3, 1, 10000, 3, 4, 1, -1),
+        EDGES.edge("5. SHOES FROM A ROW: it ends where one is not so: its DAY", rowOf(0, 0, 1, 1, 0, 2, 3, 1, 10000, 3, 4, 1, -1),
             "shoes 0 0 3 = 1", "shoes 0 4 1 = 0", "shoes 0 8 1 = 0", "put 0 7 9999", "shoes 0 0 3 = 2");
-        edgeOfRow("5. SHOES FROM A ROW: it ends where SHOES are FULL: those ahead came",
+        EDGES.edge("5. SHOES FROM A ROW: it ends where SHOES are FULL: those ahead came",
             rowOf(0, 0, 1, 1, 7, 2, 3, 1, 8, 4, 5, 1, 9), "38* shoe 0 1 1 0", "shoes 0 0 3 = 2", "count 0 = 40", "ofShoe 38 3 = 7",
             "ofShoe 39 3 = 8", "shoes 0 0 3 = 0", "shoes 0 0 1 = 0", "shoe 0 1 1 0 = FULL");
     }
