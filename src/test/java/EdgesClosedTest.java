@@ -86,6 +86,8 @@ public final class EdgesClosedTest {
         EDGES.edge("Promise 16: the SUIT that closes a CLAIM of p against q (pq -1: as told)",
             "claim 203 0 0", "suit 2>3:0=mw@1/0", "met 0 -1 10 = 0", "met 0 203 10 = 0", "met 0 302 10 = 0", "met 0 1 10 = NOT", "met 0 0 10 = NOT",
             "met 0 1919 10 = NOT");
+        EDGES.edge("Promise 16: pq 0 is PERSON 0 against itself, not as told",
+            "claim 100 0 0", "suit 1>0:0=mw@1/0", "met 0 -1 10 = 0", "met 0 0 10 = NOT", "claim 1 0 0", "met 1 0 10 = NOT");
         EDGES.edge("Promise 16: BAD, ahead of NOT: the CLAIM",
             "met 0 -1 10 = BAD", "claim 1 0 0", "met 1 -1 10 = BAD", "met -1 -1 10 = BAD", "met 32 -1 10 = BAD", "met MIN -1 10 = BAD",
             "met MAX -1 10 = BAD", "met 0 -1 10 = NOT");
@@ -183,6 +185,8 @@ public final class EdgesClosedTest {
             "suit 0>1:0=fw@10/0", "lost 2 -1 = 0");
         EDGES.edge("Promise 19: LOST: how many (i -1), the i-th: the last of all",
             "32* claim 1 0 0", "suit 0>1:0=mw@0/0", "lost 0 -1 = 31", "lost 0 0 = 1", "lost 0 30 = 31", "lost 0 31 = BAD");
+        EDGES.edge("Promise 19: LOST: where the last of all was asked",
+            "32* claim 1 0 0", "suit 0>1:31=mw@0/0", "lost 0 -1 = 31", "lost 0 0 = 0", "lost 0 30 = 30", "lost 0 31 = BAD");
         EDGES.edge("Promise 19: BAD (also none such)",
             "lost 0 -1 = BAD", "claim 1 0 0", "suit 0>1:0=mw@0/0", "lost 0 -1 = 0", "lost 0 0 = BAD", "lost 0 -2 = BAD", "lost 0 MIN = BAD",
             "lost 0 MAX = BAD", "lost -1 -1 = BAD", "lost 1 -1 = BAD", "lost MIN -1 = BAD", "lost MAX -1 = BAD");
@@ -213,6 +217,9 @@ public final class EdgesClosedTest {
         EDGES.edge("4. CLASH of POINTS: by POINTS, then SUITS",
             "claim 1 0 0", "suit 0>1:0;31+n;0-n=mw@1/0", "suit 0>1:0;31-n;0-n=mw@1/0", "suit 0>1:0;31+n;0+n=mw@1/0", "clash -1 = 4",
             "clash 0 = 2", "clash 1 = 102", "clash 2 = 1", "clash 3 = 102", "clash 4 = BAD");
+        EDGES.edge("4. CLASH of POINTS: pairs of one SUIT and several",
+            "claim 1 0 0", "suit 0>1:0;3+n=mw@1/0", "suit 0>1:0;3-n=mw@1/0", "suit 0>1:0;3-n=mw@1/0", "suit 0>1:0;3-n=mw@1/0", "clash -1 = 3",
+            "clash 0 = 1", "clash 1 = 2", "clash 2 = 3", "clash 3 = BAD");
         EDGES.edge("4. CLASH of POINTS: 100 times the POINT's first SUIT and the second one: the last two of 40",
             "claim 1 0 0", "38* suit 0>1:0=mw@1/0", "suit 0>1:0;0+n=mw@1/0", "suit 0>1:0;0-n=mw@1/0", "clash -1 = 1", "clash 0 = 3839");
         EDGES.edge("Promise 21: CLASH: BAD (also none such)",

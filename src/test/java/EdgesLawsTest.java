@@ -137,7 +137,7 @@ public final class EdgesLawsTest {
         faults("3. At most 6 of ( ! - ahead of an O are open at once: of all sorts", "(-!(-!1))", "(-!(-!(1))) 6", "-!(-!((1))) 6",
             "((((((!1)))))) 6", "((((((-1)))))) 6", "!!!!!!(1) 6", "------(1) 6", "(((((!-1))))) 6", "!!!!!(1)");
         faults("3. .. are open at once: what has ended is open no more", "!!!!!!1+!!!!!!1", "((((((1))))))*((((((1))))))",
-            "((((((1)+(2))))))", "(!!!!!1&!!!!!1)", "(!!!!!1&!!!!!!1) 13", "!(!(!1)+!!!!1)", "!!!!!!1?!!!!!!1;!!!!!!1", "(((((1)))))+(((((((1 18");
+            "((((((1)+(2))))))", "(!!!!!1&!!!!!1)", "(!!!!!1&!!!!!!1) 13", "!(!(!1)+!!!!1)", "!!!!!!1?!!!!!!1;!!!!!!1", "1?!!!!!!!1 8", "1;!!!!!!!1 8", "(((((1)))))+(((((((1 18");
         values("3. At most 6 of ( ! - are open at once, each behind all that may wait for it",
             "0|1&0<1+1*(0|1&0<1+1*(0|1&0<1+1*(0|1&0<1+1*(0|1&0<1+1*(0|1&0<1+1*(0|1&0<1+1*1))))))",
             "0:1&5=1+1*(0|1&0<1+1*(0|1&0<1+1*(0|1&0<1+1*(0|1&0<1+1*(0|1&0<1+1*(0|1&0<1+1*1))))))");
@@ -187,6 +187,9 @@ public final class EdgesLawsTest {
             "claim 1 0 0", "suit 0>1:0;0+fn;1+f;2+n;3+=mw@1/0", "law 10 f=1&n=1", "point 0 1 10 0 = 1", "point 1 1 10 0 = 0",
             "law 10 f=1&n=0", "point 1 1 10 0 = 1", "point 0 1 10 0 = 0", "law 10 f=0&n=1", "point 2 1 10 0 = 1", "point 3 1 10 0 = 0",
             "law 10 f=0&n=0", "point 3 1 10 0 = 1", "point 2 1 10 0 = 0");
+        EDGES.edge("3. of SETTLES: k, w, d, l, h of a judgment of the LAND where it is asked, too",
+            "claim 1 0 0", "suit 0>1:0;0+fn=aw@1/7", "law 17 k=3&w=1&d=8&l=7&h=7&f=1&n=1", "point 0 1 97 0 = 1", "point 0 1 87 0 = 0",
+            "won 0 0", "point 0 1 97 0 = 0", "undo", "point 0 1 97 0 = 1", "undone 0 9", "point 0 1 97 0 = 0");
         EDGES.edge("3. A NAME that is not of the USE is 0: of SETTLES",
             "claim 1 0 0", "suit 0>1:0;0+fn=mw@1/1", "law 10 a|s|c|r", "point 0 1 90 0 = 0", "point 0 100 90 0 = 0",
             "law 10 a+s+c+r=0&k=1&w=1&d=8&l=1&h=0&f=1&n=1", "point 0 1 90 0 = 1");
@@ -229,6 +232,12 @@ public final class EdgesLawsTest {
         values("3. The first LINE whose first E is not 0 counts", "1?1;0", "0:1?0;1", "0?0;1?1;0", "0:0?1;1?0;1", "0:2?0;1", "0-1?1;0",
             "0:0-1?0;1", "0?1;0?1;1?1");
         values("3. none: 0", "0:0?1", "0:0?1;0?1", "0:0?1;0?1;0?1", "0:k=9?1;w=9?1");
+        StringBuilder thirty = new StringBuilder("!0+1");
+        for (int i = 0; i < 29; i++) {
+            thirty.insert(0, "0?1;");
+        }
+        values("3. The first LINE .. counts: the last one of 120 bytes", thirty.toString());
+        values("3. LINE E ? E: each is a whole E", "0|1?2", "0:1&0?2", "1?0|2", "1?0=0|0", "0:1?0|0", "0:1?1&0|0");
         values("3. LINE E ? E: what counts is the second", "2?3=3", "0:2?0", "1?w+d-40", "0:1?w+d-41", "d?k=4", "0:l?1");
     }
 

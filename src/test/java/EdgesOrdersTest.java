@@ -257,6 +257,9 @@ public final class EdgesOrdersTest {
         EDGES.edge("4. HANGS: without the first step a SHOE binds at another one",
             "claim 1 0 0", "suit 0>1:0=mw@0/0", "law 20 n=s", "shoe 2 3 1 0", "shoe 3 0 2 0", "hangs 0 201 0 = 0", "shoe 2 0 1 0",
             "hangs 0 201 0 = NOT", "moveShoe 2 9", "hangs 0 201 0 = 0");
+        EDGES.edge("4. HANGS: a SHOE that binds as the sixth alone",
+            "claim 1 0 0", "suit 0>1:0=mw@0/0", "law 20 s=2|n=6", "2* shoe 7 6 2 0", "2* shoe 6 5 2 0", "2* shoe 5 4 2 0", "2* shoe 4 3 2 0",
+            "2* shoe 3 2 2 0", "shoe 2 0 1 0 = 10", "hangs 0 701 0 = 10", "hangs 0 601 0 = BAD");
         EDGES.edge("4. HANGS: on d in h",
             "claim 1 0 0", "suit 0>1:0=mw@0/0", "shoe 2 0 1 50", "hangs 0 201 490 = BAD", "hangs 0 201 500 = 0", "law 27 0", "hangs 0 201 507 = BAD",
             "law 37 0", "hangs 0 1 507 = BAD", "hangs 0 1 506 = NOT");
@@ -298,6 +301,9 @@ public final class EdgesOrdersTest {
             "point 3 1 0 0 = 2", "need 3 1 0 = 2");
         EDGES.edge("4. NEED: the SUIT stands behind it as ahead",
             "claim 1 0 0", "suit 0>1:0;3+fn=mw@0/0", "need 3 1 0 = 0", "point 3 1 0 0 = 1", "count 2 = 1", "need 3 1 0 = 0");
+        EDGES.edge("4. NEED: between p and q, on d in h",
+            "claim 1 0 0", "suit 18>19:0;3+fn=mw@50/0", "suit 18>19:0;3+fn=mw@51/6", "law 16 l=6", "need 3 1819 500 = 0", "need 3 1918 500 = 0",
+            "need 3 1819 490 = BAD", "need 3 1819 510 = NOT", "need 3 1819 506 = BAD", "need 3 1819 516 = 1", "need 3 1818 516 = BAD");
         EDGES.edge("4. NEED: of POINTS 0 and 31",
             "claim 1 0 0", "suit 0>1:0;0+fn=mw@0/0", "suit 0>1:0;31-fn=mw@0/0", "need 0 1 0 = 0", "need 31 1 0 = 1", "need 1 1 0 = BAD",
             "need 30 1 0 = BAD");
@@ -370,6 +376,15 @@ public final class EdgesOrdersTest {
         EDGES.edge("4. CHANGES: 40 at most are kept: the first of 41 is not", moves(41),
             "count 5 = 40", "undo = 39", "redo = 0", "count 5 = 40", "40* undo", "ofShoe 0 3 = 1", "undo = STATE", "redo = 39", "39* redo",
             "ofShoe 0 3 = 41", "redo = STATE");
+        String[] inTurn = new String[42];
+        inTurn[0] = "2* shoe 0 1 1 0";
+        for (int i = 1; i <= 41; i++) {
+            inTurn[i] = "moveShoe " + i % 2 + " " + i + " = " + Math.max(0, i - 2);
+        }
+        EDGES.edge("4. CHANGES: 40 at most are kept: of two SHOES in turn", inTurn,
+            "40* undo", "ofShoe 0 3 = 0", "ofShoe 1 3 = 1", "undo = STATE", "redo = 39", "ofShoe 0 3 = 2", "ofShoe 1 3 = 1", "redo = 38",
+            "ofShoe 0 3 = 2", "ofShoe 1 3 = 3", "38* redo", "ofShoe 0 3 = 40", "ofShoe 1 3 = 41", "undo = 39", "ofShoe 0 3 = 40",
+            "ofShoe 1 3 = 39");
         EDGES.edge("4. CHANGES: 40 at most are kept: one behind some UNDONE back drops none of those ahead", moves(40),
             "undo = 39", "undo = 38", "moveShoe 0 99 = 38", "count 5 = 39", "redo = STATE", "moveShoe 0 100 = 99", "count 5 = 40", "40* undo",
             "ofShoe 0 3 = 0", "undo = STATE");

@@ -96,6 +96,13 @@ public final class EdgesShoesClaimsTest {
             "shoe 2 9 1 0", "shoe 0 1 2 0", "shoe 0 2 3 0", "shoe 1 9 1 0", "bound 9 0 0 1 = 2");
         EDGES.edge("1. of like ones the row whose SHOES' numbers are first: a first SHOE that leads nowhere is none",
             "shoe 0 5 2 0", "shoe 0 1 3 0", "shoe 1 9 1 0", "bound 9 0 0 1 = 3");
+        EDGES.edge("1. of like ones the row whose SHOES' numbers are first: a first SHOE that leads elsewhere is none",
+            "shoe 0 5 2 0", "shoe 5 6 1 0", "shoe 0 1 3 0", "shoe 1 9 1 0", "shoe 2 9 1 0", "bound 9 0 0 1 = 3", "bound 6 0 0 1 = 2");
+        EDGES.edge("1. of like ones the row whose SHOES' numbers are first: a first SHOE behind which none binds yet is none",
+            "shoe 0 5 2 0", "shoe 5 9 1 50", "shoe 0 1 3 0", "shoe 1 9 1 0", "bound 9 49 0 1 = 3", "bound 9 50 0 1 = 2");
+        EDGES.edge("1. BOUND: by each of several SHOES of one PERSON",
+            "shoe 0 1 1 0", "shoe 0 2 2 0", "shoe 0 3 3 0", "shoe 2 4 1 0", "bound 1 0 0 0 = 1", "bound 2 0 0 1 = 2", "bound 3 0 0 1 = 3",
+            "bound 4 0 0 1 = 2");
         EDGES.edge("1. a row of SHOES: BINDS may turn on the step, so that it leads round",
             "shoe 0 1 1 0", "shoe 1 0 2 0", "shoe 0 2 3 0", "law 20 n=s", "bound 2 0 0 0 = 3", "bound 2 0 0 1 = 1");
     }
@@ -210,6 +217,8 @@ public final class EdgesShoesClaimsTest {
         EDGES.edge("Promise 6: steps (what 0; 0: it is q), SORT of the first SHOE (1)",
             "shoe 0 1 4 0", "shoe 1 2 5 0", "bound 1 0 0 0 = 1", "bound 1 0 0 1 = 4", "bound 2 0 0 0 = 2", "bound 2 0 0 1 = 4",
             "bound 202 0 0 0 = 0", "bound 202 0 0 1 = 0");
+        EDGES.edge("Promise 6: SORT of the first SHOE (1): of the last PERSONS",
+            "shoe 19 18 4 0", "shoe 18 19 5 0", "bound 1918 0 0 1 = 4", "bound 1819 0 0 1 = 5", "bound 1918 0 0 0 = 1", "bound 1819 0 0 0 = 1");
         EDGES.edge("Promise 6: BOUND by BINDS of a LAND",
             "shoe 0 1 1 0", "law 27 0", "bound 1 0 7 0 = NOT", "bound 1 0 6 0 = 1", "bound 1 0 0 0 = 1", "law 20 0", "law 27 1",
             "bound 1 0 7 0 = 1", "bound 1 0 0 0 = NOT");
