@@ -73,6 +73,9 @@ public final class LanguageTest {
         for (String told : FACE) {
             names.add(told.substring(told.indexOf(' ') + 1, told.indexOf('(')));
         }
+        for (Method m : AlreadyJudged.class.getDeclaredMethods()) {
+            CHECK.that("1: " + m + " bears a name of its own", Modifier.isPublic(m.getModifiers()) || !names.contains(m.getName()));
+        }
         Class<?>[] classes = AlreadyJudged.class.getDeclaredClasses();
         CHECK.that("11: twelve classes at most", classes.length + 1 <= 12);
         for (Class<?> inside : classes) {
