@@ -769,6 +769,17 @@ public final class AlreadyJudged {
         int fought;
         int needed;
 
+        /** Back to no CLAIMS and no POINTS; a text that has no FAULT tells all else anew. */
+        void forget() {
+            askedCount = 0;
+            askedBits = 0;
+            first = 0;
+            foundSo = 0;
+            foundNot = 0;
+            fought = 0;
+            needed = 0;
+        }
+
         void ask(int claim) {
             if (askedCount < MOST_CLAIMS) {
                 asked[askedCount] = claim;
@@ -865,6 +876,8 @@ public final class AlreadyJudged {
     /** Reads the text of a SUIT; behind a FAULT nothing more is read. */
     private static final class SuitReader {
         final Tape tape;
+        // Left by a text with a FAULT and used again, so that only SUITS that came take room.
+        Suit spare;
         int at;
         int numberAt;
         int fault;
@@ -877,14 +890,23 @@ public final class AlreadyJudged {
         Suit read(int claimCount) {
             at = 0;
             fault = -1;
-            Suit draft = new Suit();
+            Suit draft = blank();
             readSides(draft);
             readClaims(draft, claimCount);
             readPoints(draft);
             readEnding(draft);
             readTime(draft);
             judge(at >= tape.size, at);
+            spare = fault < 0 ? null : draft;
             return fault < 0 ? draft : null;
+        }
+
+        Suit blank() {
+            if (spare == null) {
+                return new Suit();
+            }
+            spare.forget();
+            return spare;
         }
 
         void readSides(Suit draft) {

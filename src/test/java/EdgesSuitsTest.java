@@ -206,6 +206,16 @@ public final class EdgesSuitsTest {
         EDGES.edge("Promise 10: a SUIT that a FAULT ended leaves nothing behind",
             "2* claim 1 0 0", "suit 2>3:0,1;3+fn;4-fn=p2l@9/9 = -124", "suit 0>1:0=mw@1/0 = 0", "ofSuit 0 0 = 0", "ofSuit 0 1 = 1",
             "ofSuit 0 2 = 1", "ofSuit 0 7 = 1", "ofSuit 0 8 = 0", "ofSuit 0 53 = 0");
+        EDGES.edge("Promise 10: a SUIT that a FAULT ended leaves nothing to one of like CLAIMS and POINTS",
+            "2* claim 1 0 0", "suit 0>1:0,1;3+fn;4-fn=p2l@9/9 = -124", "suit 0>1:1;4+;3-=ml@1/0 = 0", "ofSuit 0 7 = 1",
+            "ofSuit 0 10 = 1", "ofSuit 0 11 = BAD", "ofSuit 0 8 = 2", "ofSuit 0 53 = 2", "ofSuit 0 54 = 1", "lost 0 -1 = 1",
+            "lost 0 0 = 0");
+        EDGES.edge("Promise 10: SUITS keep what was told of each, whatever FAULTS come between",
+            "2* claim 1 0 0", "suit 0>1:0;3+f=mw@5/1 = 0", "suit 7>8:1;4-n=fl@6/8 = -115", "suit 2>3:1;5-n=al@7/2 = 1",
+            "suit 9>9:0 = -102", "suit = -100", "ofSuit 0 0 = 0", "ofSuit 0 1 = 1", "ofSuit 0 2 = 1", "ofSuit 0 3 = 1", "ofSuit 0 4 = 5",
+            "ofSuit 0 5 = 1", "ofSuit 0 10 = 0", "ofSuit 0 53 = 5", "ofSuit 0 54 = 0", "ofSuit 0 55 = 0", "ofSuit 1 0 = 2",
+            "ofSuit 1 1 = 3", "ofSuit 1 2 = 3", "ofSuit 1 3 = 0", "ofSuit 1 4 = 7", "ofSuit 1 5 = 2", "ofSuit 1 10 = 1", "ofSuit 1 8 = 1",
+            "ofSuit 1 55 = 10");
     }
 
     private static void ofSuit() {
